@@ -19,6 +19,7 @@ public final class MakingsTest {
         flow();
         flowOfAlike();
         flowAcrossTiles();
+        withoutSize();
         CHECK.end();
     }
 
@@ -216,5 +217,18 @@ public final class MakingsTest {
             CHECK.due("first row", x.cell(1, u, 0), 1);
             CHECK.due("seventh row", x.cell(1, u, 6), 7);
         }
+    }
+
+    /** Beyond the first 8 times 8 cells of a new object there is nothing either. */
+    private static void withoutSize() {
+        BoardSums x = new BoardSums();
+        Check.boards(x, "a=sheet 0;b=fill a 0;c=fill a 5;d=zone count b b;e=flow c;f=way a c;g=near 3 count c");
+        x.tell(0, 7, 7, 5);
+        row("zone", x, 3, 0, 63, 63);
+        row("flow", x, 4, 0, 1, 1, 1, 1, 1, 1, 1, 1);
+        row("flow", x, 4, 7, 1, 1, 1, 1, 1, 1, 1, 1);
+        row("way", x, 5, 7, 35, 30, 25, 20, 15, 10, 5, 0);
+        row("way", x, 5, 0, 70, 65, 60, 55, 50, 45, 40, 35);
+        row("near", x, 6, 7, 16, 20, 24, 28, 28, 24, 20, 16);
     }
 }
