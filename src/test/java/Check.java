@@ -5,12 +5,18 @@ import java.util.Arrays;
 final class Check {
     private int wrong = 0;
     private int asked = 0;
+    private String sentence = "";
+
+    /** The document's words that the answers from here on are due by. */
+    void sentence(String words) {
+        sentence = "[" + words + "] ";
+    }
 
     void due(String call, int got, int want) {
         asked++;
         if (got != want) {
             wrong++;
-            System.out.println(call + " answered " + got + ", due is " + want);
+            System.out.println(sentence + call + " answered " + got + ", due is " + want);
         }
     }
 
@@ -55,6 +61,24 @@ final class Check {
         x.size(w, h);
         boards(x, text);
         return x;
+    }
+
+    /** Asks a cell of each tile that there is. */
+    static void askAll(BoardSums x, int board) {
+        for (int y = 0; y < x.count(1); y += 4) {
+            for (int u = 0; u < x.count(0); u += 4) {
+                x.cell(board, u, y);
+            }
+        }
+    }
+
+    /** The fresh tiles of a board, as bits. */
+    static int freshBits(BoardSums x, int board) {
+        int bits = 0;
+        for (int tile = 0; tile < 9; tile++) {
+            bits |= x.fresh(board, tile) == 1 ? 1 << tile : 0;
+        }
+        return bits;
     }
 
     /** Tells a sheet row by row, y = 0 first; null is a gap. */
