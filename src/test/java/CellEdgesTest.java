@@ -111,13 +111,15 @@ public final class CellEdgesTest {
         CHECK.sentence("I: TILES are 4 times 4 CELLS (as far as there are)");
         for (int w = 2; w <= 12; w++) {
             for (int h = 2; h <= 12; h++) {
-                BoardSums x = Check.of(w, h, "a=sheet 0;b=fill a 3");
+                BoardSums x = Check.of(w, h, "a=sheet 0;b=fill a 3;c=zone count b b;d=flow b");
                 for (int tile = 0; tile < 9; tile++) {
                     boolean isThere = tile % 3 * 4 < w && tile / 3 * 4 < h;
                     CHECK.due("tile " + tile + " of " + w + " times " + h, x.fresh(0, tile), isThere ? 0 : -1);
                 }
                 CHECK.due("tiles of " + w + " times " + h, x.count(3), (w + 3) / 4 * ((h + 3) / 4));
                 CHECK.due("last cell of " + w + " times " + h, x.cell(1, w - 1, h - 1), 3);
+                CHECK.due("filled cells of " + w + " times " + h, x.cell(2, 0, 0), w * h);
+                CHECK.due("flow to the last of " + w + " times " + h, x.cell(3, w - 1, h - 1), 1);
             }
         }
     }
@@ -203,6 +205,12 @@ public final class CellEdgesTest {
             CHECK.due("last cell of sheet " + board, x.cell(board, 7, 7), GAP);
         }
         CHECK.due("no cell that is none", x.cell(4, 3, 3) + x.cell(4, 7, 7) + x.cell(5, 3, 3) + x.cell(5, 7, 7), 0);
+        Check.boards(x, "a=sheet 0;b=fill a 0;c=zone count b b;d=fill a 5;e=flow d;f=near 3 count d;g=way a d");
+        CHECK.due("cells in a zone of all", x.cell(2, 7, 7), 64);
+        CHECK.due("no lower cell beyond", x.cell(4, 7, 7), 1);
+        CHECK.due("none to count beyond", x.cell(5, 7, 7), 16);
+        x.tell(0, 7, 0, 1);
+        CHECK.due("no way beyond", x.cell(6, 0, 7), 14 * 5);
     }
 
     private static void newObjectNoText() {

@@ -1,4 +1,4 @@
-/** Terms IV and promises 13 to 16: each sentence that names an edge of images, counts and the status. */
+/** Terms IV, promises 13 to 16 and the 512 calls: each sentence that names an edge of images, counts, the status. */
 public final class ImageEdgesTest {
     private static final int GAP = BoardSums.GAP;
     private static final int MIN = Integer.MIN_VALUE;
@@ -28,6 +28,7 @@ public final class ImageEdgesTest {
         statusOfTheLatest();
         statusLeftByOthers();
         statusAheadOfAny();
+        callsTo512();
         CHECK.end();
     }
 
@@ -444,5 +445,18 @@ public final class ImageEdgesTest {
         x.count(6);
         x.feed(1, 2, 3, 4, 5);
         CHECK.due("after calls that set none", x.status(), 0);
+    }
+
+    /** 17 calls bring in the longest text, 494 tell, bring back and ask, and one is left. */
+    private static void callsTo512() {
+        CHECK.sentence("An object is used for at most 512 calls after it has been made");
+        BoardSums x = new BoardSums();
+        String text = "a=sheet 0;b=near 3 sum a;c=zone sum b b;d=way a c;e=flow d;f=near 3 count e;g=zone most f f";
+        CHECK.due("boards", Check.boards(x, text + " ".repeat(300 - text.length())), 7);
+        for (int i = 0; i < 247; i++) {
+            CHECK.due("tell " + i, x.tell(0, i % 8, i / 8 % 8, i), 0);
+            CHECK.due("ask " + i, i % 2 == 0 ? x.image(i % 3) : x.fresh(6, 4), 0);
+        }
+        CHECK.due("the 512th", x.cell(0, 6, 6), 246);
     }
 }

@@ -33,6 +33,7 @@ public final class MakingEdgesTest {
         zoneSameValue();
         zoneOfNone();
         zoneOfExtremes();
+        zoneOfOneCell();
         wayGap();
         wayZero();
         wayComesInto();
@@ -41,6 +42,7 @@ public final class MakingEdgesTest {
         wayFromSideToSide();
         wayNoneLeads();
         wayLeast();
+        wayWinds();
         flowGap();
         flowOneAlone();
         flowToTheLeast();
@@ -304,6 +306,8 @@ public final class MakingEdgesTest {
             Check.tellAll(x, 1, new Integer[][] {{G, 0, G}});
             row(how, x, 2, 0, GAP, 1, GAP);
             row(how, x, 2, 1, GAP, GAP, GAP);
+            x.tell(1, 1, 0, GAP);
+            row(how + ", a gap now", x, 2, 0, GAP, GAP, GAP);
         }
     }
 
@@ -352,6 +356,26 @@ public final class MakingEdgesTest {
         CHECK.due("count", x.cell(8, 1, 1), 1);
     }
 
+    private static void zoneOfOneCell() {
+        CHECK.sentence("II: zone: where b has the same VALUE as here, be it here alone");
+        int[][] spots = {{0, 0}, {11, 0}, {0, 11}, {11, 11}, {6, 6}};
+        for (int[] s : spots) {
+            BoardSums x = Check.of(12, 12, "a=sheet 0;b=sheet 1;c=fill b 8;d=zone sum a c;e=zone count a c");
+            x.tell(0, s[0], s[1], 5);
+            x.tell(1, s[0], s[1], 9);
+            CHECK.due("sum of one", x.cell(3, s[0], s[1]), 5);
+            CHECK.due("count of one", x.cell(4, s[0], s[1]), 1);
+            x.tell(0, s[0], s[1], 6);
+            CHECK.due("sum of one again", x.cell(3, s[0], s[1]), 6);
+            x.tell(1, s[0], s[1], 7);
+            CHECK.due("in another zone alone", x.cell(3, s[0], s[1]), 6);
+            x.tell(0, s[0], s[1], GAP);
+            CHECK.due("sum of none", x.cell(3, s[0], s[1]), GAP);
+            CHECK.due("count of none", x.cell(4, s[0], s[1]), 0);
+            CHECK.due("the others have none either", x.cell(3, 5, 5), GAP);
+        }
+    }
+
     private static void wayGap() {
         CHECK.sentence("II: way a b: a GAP, where b is one");
         BoardSums x = Check.of(3, 2, "a=sheet 0;b=sheet 1;c=way a b");
@@ -367,6 +391,16 @@ public final class MakingEdgesTest {
         Check.tellAll(x, 0, new Integer[][] {{1, G, 0, G, -1, G, 1000000, G, G}});
         Check.tellAll(x, 1, new Integer[][] {{7, G, 7, G, 7, G, -7, G, 7}});
         row("way", x, 2, 0, 0, GAP, GAP, GAP, GAP, GAP, 0, GAP, GAP);
+        int[][] spots = {{0, 0}, {11, 0}, {0, 11}, {11, 11}, {6, 6}};
+        for (int[] s : spots) {
+            BoardSums y = Check.of(12, 12, "a=sheet 0;b=sheet 1;c=way a b");
+            y.tell(1, s[0], s[1], 3);
+            CHECK.due("not above 0 yet", y.cell(2, s[0], s[1]), GAP);
+            y.tell(0, s[0], s[1], 1);
+            CHECK.due("one alone", y.cell(2, s[0], s[1]), 0);
+            y.tell(0, s[0], s[1], 0);
+            CHECK.due("no more", y.cell(2, s[0], s[1]), GAP);
+        }
     }
 
     private static void wayComesInto() {
@@ -452,6 +486,29 @@ public final class MakingEdgesTest {
         x.tell(0, 4, 0, 1);
         row("from the nearer one", x, 2, 0, 0, 50, 100, 50, 0);
         row("from the nearer one", x, 2, 2, 2, 3, 4, 3, 2);
+    }
+
+    private static void wayWinds() {
+        CHECK.sentence("II: way: the least sum over ways, however they wind");
+        BoardSums x = Check.of(12, 12, "a=sheet 0;b=sheet 1;c=way a b");
+        for (int y = 0; y < 12; y++) {
+            for (int i = y % 2 == 0 ? 0 : 11; i < 12; i++) {
+                x.tell(1, y % 4 < 2 ? i : 11 - i, y, 1);
+            }
+        }
+        x.tell(0, 0, 0, 1);
+        CHECK.due("to and fro, to the last gate", x.cell(2, 0, 11), 77);
+        x.tell(0, 0, 0, 0);
+        x.tell(0, 0, 11, 1);
+        CHECK.due("and all the way back", x.cell(2, 0, 0), 77);
+        BoardSums y = Check.of(12, 12, "a=sheet 0;b=sheet 1;c=way a b");
+        for (int u = 0; u < 12; u++) {
+            for (int i = u % 2 == 0 ? 0 : 11; i < 12; i++) {
+                y.tell(1, u, u % 4 < 2 ? i : 11 - i, 1);
+            }
+        }
+        y.tell(0, 0, 0, 1);
+        CHECK.due("up and down, to the last gate", y.cell(2, 11, 0), 77);
     }
 
     private static void flowGap() {

@@ -19,9 +19,11 @@ public final class TextEdgesTest {
         anyBlanks();
         blankIs32Alone();
         longestRowsOfLetters();
+        wordsLetterByLetter();
         longestRowsOfDigits();
         singleOtherBytes();
         boardsWithSemicolons();
+        boardWithEqualSign();
         nameIsOneLetter();
         nameThatHasNoneYet();
         nameThatHas();
@@ -39,6 +41,7 @@ public final class TextEdgesTest {
         endFirstBytesAlone();
         endOfMoreThanThereAre();
         boardsEmptyTheTape();
+        boardsOfTheNewTextAlone();
         boardsNoTileFresh();
         boardsRefusedStay();
         boardsOfNone();
@@ -80,6 +83,15 @@ public final class TextEdgesTest {
         BoardSums x = new BoardSums();
         Check.boards(x, "a=sheet 0;b=fill a " + "0".repeat(280) + "7");
         CHECK.due("the last byte counts", x.cell(1, 0, 0), 7);
+        // As many TOKENS as bytes, and one alone.
+        for (String token : new String[] {"?", ";", "=", "-", "" + (char) 255, "" + (char) 0}) {
+            bad(token.repeat(300), 0);
+            bad("a=sheet 0;b=fill a " + token.repeat(281), token.equals("-") ? 20 : 19);
+        }
+        bad("a1".repeat(150), 1);
+        bad("a=".repeat(150), 2);
+        bad("a".repeat(300), 0);
+        bad("0".repeat(300), 0);
     }
 
     private static void anyBlanks() {
@@ -121,6 +133,30 @@ public final class TextEdgesTest {
         bad("a=sheeT 0", 2);
         bad("a=shee" + (char) ('t' + 128) + " 0", 2);
         bad((char) ('a' + 128) + "=sheet 0", 0);
+    }
+
+    private static void wordsLetterByLetter() {
+        CHECK.sentence("II: MAKING, HOW: these words alone");
+        for (String making : MAKINGS) {
+            String text = TWO_SHEETS + "c=" + making;
+            for (int place = TWO_SHEETS.length() + 2; place < text.length(); place++) {
+                int start = place;
+                while (text.charAt(start - 1) >= 'a' && text.charAt(start - 1) <= 'z') {
+                    start--;
+                }
+                boolean isLetter = text.charAt(place) >= 'a' && text.charAt(place) <= 'z';
+                if (isLetter) {
+                    bad(text.substring(0, place) + "q" + text.substring(place + 1), start);
+                    bad(text.substring(0, place) + "qq" + text.substring(place + 1), start);
+                    bad(text.substring(0, place) + text.charAt(place) + text.substring(place), start);
+                }
+            }
+        }
+        String[] shorter = {"shee 0", "ad a b", "les a b", "time a b", "leas a b", "mos a b", "wher a b", "wa a b",
+            "i a b a", "fil a 1", "nea 1 sum a", "zon sum a b", "flo a", "sheetsheet 0"};
+        for (String making : shorter) {
+            bad(TWO_SHEETS + "c=" + making, TWO_SHEETS.length() + 2);
+        }
     }
 
     private static void longestRowsOfDigits() {
@@ -167,6 +203,24 @@ public final class TextEdgesTest {
         bad("a=sheet 0 b=sheet 0", 10);
         bad("a=sheet 0,b=sheet 0", 9);
         bad("a=sheet 0:b=sheet 0", 9);
+    }
+
+    private static void boardWithEqualSign() {
+        CHECK.sentence("II: BOARD: NAME \"=\" MAKING");
+        good("a=sheet 0", 1);
+        bad("a", 1);
+        bad("a=", 2);
+        bad("=", 0);
+        bad("a sheet 0", 2);
+        bad("a==sheet 0", 2);
+        bad("a:sheet 0", 1);
+        bad("a-sheet 0", 1);
+        bad("a;sheet 0", 1);
+        bad("a=a", 2);
+        bad("a=0", 2);
+        bad("a=;", 2);
+        bad("a=b=sheet 0", 2);
+        bad("a=sheet 0=sheet 0", 9);
     }
 
     private static void nameIsOneLetter() {
@@ -481,6 +535,30 @@ public final class TextEdgesTest {
         CHECK.due("a text that can't be", Check.boards(x, "a=sheet 0;"), -6);
         CHECK.due("no bytes", x.count(4), 0);
         CHECK.due("the next text is not behind it", Check.boards(x, "b=sheet 0;c=flow b"), 2);
+    }
+
+    private static void boardsOfTheNewTextAlone() {
+        CHECK.sentence("7: The TAPE becomes BOARDS: nothing is left of an earlier TEXT");
+        BoardSums x = new BoardSums();
+        for (int sheet = 0; sheet < 4; sheet++) {
+            x.tell(sheet, 0, 0, 10 + sheet);
+        }
+        String[] texts = {"a=sheet 1;b=sheet 2;c=if a a b;d=near 3 count c", "a=sheet 0;b=sheet 3;c=less b a;d=flow c",
+            "a=sheet 2;b=sheet 0;c=fill b 4;d=zone sum c c", "a=sheet 3;b=sheet 1;c=flow b;d=fill c 9",
+            "a=sheet 0;b=sheet 2;c=near 1 sum b;d=where c a", "a=sheet 1;b=sheet 1;c=sheet 3;d=sheet 2"};
+        int[] ofC = {11, 3, 10, 1, 12, 13};
+        int[] ofD = {1, 1, 10, 1, 12, 12};
+        int[] cFrom = {0b0110, 0b1001, 0b0001, 0b0010, 0b0100, 0b1000};
+        for (int i = 0; i < texts.length; i++) {
+            CHECK.due("refused ahead of " + i, Check.boards(x, "a=sheet 3;b=if a a a;c=zone most b b;d=if"), -6);
+            CHECK.due("boards " + i, Check.boards(x, texts[i]), 4);
+            CHECK.due("c of text " + i, x.cell(2, 0, 0), ofC[i]);
+            CHECK.due("d of text " + i, x.cell(3, 0, 0), ofD[i]);
+            for (int sheet = 0; sheet < 4; sheet++) {
+                int bits = x.from(2, 0, sheet) & 1;
+                CHECK.due("c of text " + i + " from sheet " + sheet, bits, cFrom[i] >> sheet & 1);
+            }
+        }
     }
 
     private static void boardsNoTileFresh() {

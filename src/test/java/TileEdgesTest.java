@@ -25,6 +25,7 @@ public final class TileEdgesTest {
         lostWithWhatNeedsIt();
         lostOverAnySteps();
         lostBesideNear();
+        madeAgainAsAnew();
         nothingLostByRefusedCalls();
         fromAsBits();
         fromOverAllSteps();
@@ -319,6 +320,37 @@ public final class TileEdgesTest {
         CHECK.due("the tile that both need", x.count(5), 4);
     }
 
+    private static void madeAgainAsAnew() {
+        CHECK.sentence("III: what is MADE again is as it would be if it had not been MADE before");
+        for (String making : SAME) {
+            againAsAnew(making);
+        }
+        for (String making : WHOLE) {
+            againAsAnew(making);
+        }
+        againAsAnew("near 1 least a");
+        againAsAnew("near 3 sum a");
+        againAsAnew("sheet 0");
+    }
+
+    private static void againAsAnew(String making) {
+        BoardSums again = Check.of(9, 5, THREE + making);
+        BoardSums anew = Check.of(9, 5, THREE + making);
+        for (int i = 0; i < 90; i++) {
+            int sheet = i % 2;
+            int value = i * i % 7 == 1 ? GAP : i * 5 % 11 - 3;
+            again.tell(sheet, i * 4 % 9, i * 3 % 5, value);
+            anew.tell(sheet, i * 4 % 9, i * 3 % 5, value);
+            if (i % 10 == 9) {
+                Check.askAll(again, 3);
+            }
+        }
+        for (int place = 0; place < 45; place++) {
+            int value = anew.cell(3, place % 9, place / 9);
+            CHECK.due(making + " at " + place, again.cell(3, place % 9, place / 9), value);
+        }
+    }
+
     private static void nothingLostByRefusedCalls() {
         CHECK.sentence("III: only as a CELL of a SHEET is told");
         BoardSums x = Check.of(8, 8, "a=sheet 0;b=flow a");
@@ -367,7 +399,11 @@ public final class TileEdgesTest {
         CHECK.due("near of near", x.from(4, 0, 0), 511);
         CHECK.due("near of a sheet", x.from(4, 0, 1), 0b011011);
         CHECK.due("if: what is needed on several ways", x.from(5, 8, 1), 0b110110000);
-        CHECK.due("two boards of one sheet", x.from(7, 4, 0), 16);
+        CHECK.due("two boards of one sheet, one needed", x.from(7, 4, 0), 16);
+        BoardSums y = Check.of(12, 12, "a=sheet 0;b=near 1 sum a;c=sheet 0;d=add b c;e=add c b;f=sheet 0;g=fill d 0");
+        CHECK.due("two boards of one sheet, the first needs more", y.from(3, 0, 0), 0b011011);
+        CHECK.due("turned", y.from(4, 8, 0), 0b110110000);
+        CHECK.due("and a third one that is not needed", y.from(6, 2, 0), 0b110110);
         CHECK.due("zone", x.from(8, 4, 0) & x.from(8, 4, 1), 511);
         CHECK.due("nothing is made", x.made(), 0);
         ask(x, 5, 0);
