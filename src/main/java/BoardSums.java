@@ -992,10 +992,10 @@ public final class BoardSums {
             for (int round = 0; changed && round < PLACES; round++) {
                 changed = false;
                 for (int place = FIRST_PLACE; place <= LAST_PLACE; place++) {
-                    changed |= shorten(b, out, place);
+                    changed = shorten(b, out, place) || changed;
                 }
                 for (int place = LAST_PLACE; place >= FIRST_PLACE; place--) {
-                    changed |= shorten(b, out, place);
+                    changed = shorten(b, out, place) || changed;
                 }
             }
         }
